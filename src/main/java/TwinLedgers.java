@@ -508,7 +508,7 @@ public final class TwinLedgers {
         }
     }
 
-    /** One ledger; of the other one it reads only packets, answers and numbers yet to be proved. */
+    /** One ledger; whatever it reads of the other one, it believes only by a proof. */
     private static final class Ledger {
         private final Store store = new Store();
         private final Store[] states = new Store[KEPT_STATES];
