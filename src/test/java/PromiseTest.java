@@ -1,14 +1,11 @@
 /** For every promise: ordinary calls, the edges that the document names, and wrong calls. */
-public final class PromiseTest {
+public final class PromiseTest extends Bench {
     private static final int NO_LEDGER = 2;
     private static final int NO_END = 3;
     private static final int[] ODD_NUMBERS = {
         Integer.MIN_VALUE, Integer.MIN_VALUE + 1, -513, -64, -2, -1, 16, 17, 64, 512, 513, 514, 4096,
         Integer.MAX_VALUE - 1, Integer.MAX_VALUE
     };
-
-    private static int wrong = 0;
-    private static int promise = 0;
 
     public static void main(String[] args) {
         promise1();
@@ -46,78 +43,11 @@ public final class PromiseTest {
         promise20();
         promise21();
         oddNumbers();
-        System.out.println(wrong == 0 ? "all promises are kept" : wrong + " answers are not as due");
-        if (wrong != 0) {
-            System.exit(1);
-        }
-    }
-
-    private static void due(String what, int got, int want) {
-        if (got != want) {
-            wrong++;
-            System.out.println("promise " + promise + ": " + what + " answered " + got
-                    + ", due is " + want);
-        }
-    }
-
-    private static void due(String what, boolean got, boolean want) {
-        due(what, got ? 1 : 0, want ? 1 : 0);
-    }
-
-    /** Opens channel c by three rounds; ledger 0 begins. */
-    private static void openChannel(TwinLedgers x, int c, boolean ordered) {
-        due("init for channel", x.init(0, c, ordered), 0);
-        x.round();
-        due("attempt for channel", x.attempt(1, c, ordered, x.height(0)), 0);
-        x.round();
-        due("ack for channel", x.open(0, c, 0, x.height(1)), 0);
-        x.round();
-        due("confirm for channel", x.open(1, c, 1, x.height(0)), 0);
-    }
-
-    private static TwinLedgers opened(int patience, boolean ordered) {
-        TwinLedgers x = new TwinLedgers(patience);
-        openChannel(x, 0, ordered);
-        return x;
-    }
-
-    /** A block of ledger l, and its header to the other one's client; answers the height. */
-    private static int publish(TwinLedgers x, int l) {
-        int h = x.tick(l);
-        due("publish", x.update(1 - l, h, 15, false), 0);
-        return h;
-    }
-
-    private static int mix(int h, int x) {
-        int g = (h ^ x) * 73244475;
-        return g ^ (g >>> 15);
-    }
-
-    private static int print(int kind, int amount, int who, int limit, int back) {
-        return mix(mix(mix(mix(mix(3, kind), amount), who), limit), back);
-    }
-
-    /** The root of keys and values that stand by turns, as the document words it. */
-    private static int rootOf(int... pairs) {
-        return rootOf(pairs, 0, pairs.length / 2);
-    }
-
-    private static int rootOf(int[] pairs, int first, int n) {
-        if (n == 0) {
-            return 0;
-        }
-        if (n == 1) {
-            return mix(mix(1, pairs[2 * first]), pairs[2 * first + 1]);
-        }
-        int m = 1;
-        while (2 * m < n) {
-            m *= 2;
-        }
-        return mix(mix(2, rootOf(pairs, first, m)), rootOf(pairs, first + m, n - m));
+        finish();
     }
 
     private static void promise1() {
-        promise = 1;
+        chapter("Promise 1");
         TwinLedgers x = new TwinLedgers(4);
         for (int l = 0; l < 2; l++) {
             due("height", x.height(l), 0);
@@ -148,7 +78,7 @@ public final class PromiseTest {
     }
 
     private static void promise2() {
-        promise = 2;
+        chapter("Promise 2");
         TwinLedgers x = new TwinLedgers(4);
         due("tick", x.tick(0), 1);
         due("tick", x.tick(0), 2);
@@ -164,7 +94,7 @@ public final class PromiseTest {
     }
 
     private static void promise3() {
-        promise = 3;
+        chapter("Promise 3");
         TwinLedgers x = new TwinLedgers(4);
         due("no height yet", x.update(0, 1, 15, false), -1);
         x.tick(1);
@@ -201,7 +131,7 @@ public final class PromiseTest {
     }
 
     private static void promise4() {
-        promise = 4;
+        chapter("Promise 4");
         TwinLedgers x = new TwinLedgers(4);
         due("no ledger", x.init(NO_LEDGER, 0, false), -1);
         due("no end", x.init(0, NO_END, false), -1);
@@ -222,7 +152,7 @@ public final class PromiseTest {
     }
 
     private static void promise5() {
-        promise = 5;
+        chapter("Promise 5");
         TwinLedgers x = new TwinLedgers(4);
         x.init(0, 0, false);
         x.init(0, 1, true);
@@ -265,7 +195,7 @@ public final class PromiseTest {
     }
 
     private static void promise6() {
-        promise = 6;
+        chapter("Promise 6");
         TwinLedgers x = new TwinLedgers(4);
         x.init(0, 0, true);
         publish(x, 0);
@@ -325,7 +255,7 @@ public final class PromiseTest {
     }
 
     private static void promise7() {
-        promise = 7;
+        chapter("Promise 7");
         TwinLedgers x = opened(4, false);
         due("no ledger", x.close(NO_LEDGER, 0), -1);
         due("no ledger", x.close(-1, 0), -1);
@@ -344,7 +274,7 @@ public final class PromiseTest {
     }
 
     private static void promise8() {
-        promise = 8;
+        chapter("Promise 8");
         TwinLedgers x = new TwinLedgers(4);
         due("NONE", x.send(0, 0, 0, 0, 1), -2);
         openChannel(x, 0, false);
@@ -396,7 +326,7 @@ public final class PromiseTest {
     }
 
     private static void promise9() {
-        promise = 9;
+        chapter("Promise 9");
         TwinLedgers x = opened(4, false);
         due("no packet yet", x.receive(1, 0, 1, 3, false), -1);
         x.send(0, 0, 1, 0, 100);
@@ -527,7 +457,7 @@ public final class PromiseTest {
     }
 
     private static void promise10() {
-        promise = 10;
+        chapter("Promise 10");
         TwinLedgers x = opened(16, false);
         due("no packet", x.acknowledge(0, 0, 1, 3), -1);
         x.send(0, 0, 1, 0, 100);
@@ -607,7 +537,7 @@ public final class PromiseTest {
     }
 
     private static void promise11() {
-        promise = 11;
+        chapter("Promise 11");
         TwinLedgers x = opened(2, false);
         due("no packet", x.timeout(0, 0, 1, 5, false), -1);
         x.send(0, 0, 1, 0, 100);
@@ -754,7 +684,7 @@ public final class PromiseTest {
     }
 
     private static void promise12() {
-        promise = 12;
+        chapter("Promise 12");
         TwinLedgers x = new TwinLedgers(2);
         due("an empty round", x.round(), 0);
         due("height 0", x.height(0), 1);
@@ -813,7 +743,7 @@ public final class PromiseTest {
     }
 
     private static void promise13() {
-        promise = 13;
+        chapter("Promise 13");
         TwinLedgers x = new TwinLedgers(4);
         x.tick(1);
         x.tick(1);
@@ -824,7 +754,7 @@ public final class PromiseTest {
     }
 
     private static void promise14() {
-        promise = 14;
+        chapter("Promise 14");
         TwinLedgers x = new TwinLedgers(4);
         due("no height", x.root(0, 1), 0);
         x.tick(0);
@@ -887,7 +817,7 @@ public final class PromiseTest {
     }
 
     private static void promise15() {
-        promise = 15;
+        chapter("Promise 15");
         TwinLedgers x = new TwinLedgers(4);
         x.tick(0);
         x.tick(0);
@@ -907,7 +837,7 @@ public final class PromiseTest {
     }
 
     private static void promise16() {
-        promise = 16;
+        chapter("Promise 16");
         TwinLedgers x = opened(16, true);
         due("no what", x.end(0, 0, 5), -1);
         due("no what", x.end(0, 0, -1), -1);
@@ -930,7 +860,7 @@ public final class PromiseTest {
     }
 
     private static void promise17() {
-        promise = 17;
+        chapter("Promise 17");
         TwinLedgers x = opened(2, false);
         x.send(0, 0, 1, 0, 1);
         x.send(0, 0, 3, 0, 1);
@@ -953,7 +883,7 @@ public final class PromiseTest {
     }
 
     private static void promise18() {
-        promise = 18;
+        chapter("Promise 18");
         TwinLedgers x = opened(5, false);
         x.send(0, 0, 1, 0, 1);
         due("limit", x.limit(0, 0, 1), 3 + 5);
@@ -977,7 +907,7 @@ public final class PromiseTest {
     }
 
     private static void promise19() {
-        promise = 19;
+        chapter("Promise 19");
         TwinLedgers x = opened(16, false);
         x.send(0, 0, 1, 0, 400);
         x.round();
@@ -995,7 +925,7 @@ public final class PromiseTest {
     }
 
     private static void promise20() {
-        promise = 20;
+        chapter("Promise 20");
         TwinLedgers x = opened(16, false);
         openChannel(x, 1, false);
         x.send(0, 0, 1, 0, 400);
@@ -1016,7 +946,7 @@ public final class PromiseTest {
     }
 
     private static void promise21() {
-        promise = 21;
+        chapter("Promise 21");
         TwinLedgers x = opened(16, false);
         openChannel(x, 2, false);
         x.send(0, 2, 1, 0, 100);
@@ -1037,7 +967,7 @@ public final class PromiseTest {
 
     /** Numbers far from all sense are answered, never thrown at, and change nothing. */
     private static void oddNumbers() {
-        promise = 0;
+        chapter("Odd numbers");
         for (int odd : ODD_NUMBERS) {
             TwinLedgers x = opened(16, true);
             x.send(0, 0, 1, 0, 10);
