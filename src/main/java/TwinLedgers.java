@@ -226,7 +226,8 @@ public final class TwinLedgers {
     private static int relayPackets(Ledger own, Ledger other) {
         int moved = 0;
         for (int c = 0; c < ENDS; c++) {
-            for (int s = 1; s <= other.ends[c].sent; s++) {
+            int sent = other.ends[c].sent;
+            for (int s = 1; s <= sent; s++) {
                 if (own.receivePacket(other, c, s, other.height, false) > 0) {
                     moved++;
                 }
@@ -238,7 +239,8 @@ public final class TwinLedgers {
     private static int relayAnswers(Ledger own, Ledger other) {
         int moved = 0;
         for (int c = 0; c < ENDS; c++) {
-            for (int s = 1; s <= own.ends[c].sent; s++) {
+            int sent = own.ends[c].sent;
+            for (int s = 1; s <= sent; s++) {
                 if (own.settleAnswered(other, c, s, other.height) > 0) {
                     moved++;
                 }
@@ -250,7 +252,8 @@ public final class TwinLedgers {
     private static int relayTimeouts(Ledger own, Ledger other) {
         int moved = 0;
         for (int c = 0; c < ENDS; c++) {
-            for (int s = 1; s <= own.ends[c].sent; s++) {
+            int sent = own.ends[c].sent;
+            for (int s = 1; s <= sent; s++) {
                 if (own.settleTimedOut(other, c, s, other.height, false) == 0) {
                     moved++;
                 }
